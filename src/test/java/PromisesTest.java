@@ -261,6 +261,22 @@ public final class PromisesTest {
         due("10: none whole", d.read(1), 0);
         d.sheet(1, 0, 0);
         due("10: empty", d.read(1), 0);
+        DodgemDebate cut = debate("b00e5;b02e5;b04e5", "");
+        cut.sheet(2, 1, 60);
+        int[] rows = {1, 2, 1, 1, 4, 2, 0, 3, 0, 0, 3, 8};
+        for (int i = 0; i < rows.length; i++) {
+            cut.put(2, 1, i, rows[i]);
+        }
+        due("10: three, and no car 8", cut.read(2), 3);
+        due("10: car 0 goes on", cut.at(4, 0, 5), 1);
+        due("10: car 1 is cut", cut.at(2, 1, 5), 0);
+        due("10: not sooner", cut.at(1, 1, 5), 1);
+        due("10: car 2 is cut", cut.at(4, 2, 5), 0);
+        due("10: not sooner", cut.at(3, 2, 5), 1);
+        due("10: rung", cut.house(3, 2), 1);
+        cut.sheet(3, 0, 60);
+        due("10: twenty bells, five of them", cut.read(3), 5);
+        due("10: as long as there is room", cut.count(4), 8);
     }
 
     private static void moments() {
@@ -352,6 +368,8 @@ public final class PromisesTest {
         due("13", d.house(0, 0), 1);
         due("13", d.house(0, 1), 1);
         due("13", d.house(0, 2), 0);
+        due("13: who turns round is where it was", debate("b00w5;b10e5;b50e5", "").house(0, 0), 2);
+        due("13: the others", debate("b00w5;b10e5;b50e5", "").house(0, 1), 1);
         due("13", d.house(1, 2), 1);
         due("13", d.house(2, 2), 0);
         due("13", d.house(-1, 0), -2);
@@ -406,6 +424,9 @@ public final class PromisesTest {
     private static void promise19() {
         DodgemDebate d = debate("b00n5;b55n5;b10n5", "");
         due("19", d.carried(), 0);
+        d.event(0, 0, 0);
+        due("19: at the first moment", d.carried(), 1);
+        d.back();
         d.event(0, 3, 0);
         due("19", d.carried(), 1);
         d.event(0, 3, 1);
