@@ -95,7 +95,7 @@ public final class DodgemDebate {
             return BAD;
         }
         settle();
-        return i < steers.size ? steers.rows[i][what] : NONE;
+        return steers.partOf(i, what);
     }
 
     public int event(int kind, int moment, int car) {
@@ -162,11 +162,7 @@ public final class DodgemDebate {
             return BAD;
         }
         settle();
-        if (what == 2) {
-            return run.rung[moment];
-        }
-        int ayes = run.ayes(moment);
-        return what == 0 ? ayes : cars.size - ayes;
+        return run.division(moment, what);
     }
 
     public int strikes() {
@@ -203,13 +199,7 @@ public final class DodgemDebate {
 
     public int carried() {
         settle();
-        int carried = 0;
-        for (int moment = 0; moment < MOMENTS; moment++) {
-            if (run.rung[moment] == 1 && 2 * run.ayes(moment) > cars.size) {
-                carried++;
-            }
-        }
-        return carried;
+        return run.divisionsCarried();
     }
 
     // ---- plans
@@ -235,13 +225,8 @@ public final class DodgemDebate {
             return BAD;
         }
         settle();
-        int best = 0;
-        for (int moment = 1; moment < MOMENTS; moment++) {
-            if (ayesAhead(moment) > ayesAhead(best)) {
-                best = moment;
-            }
-        }
-        return what == 0 ? best : ayesAhead(best);
+        int moment = bestBell();
+        return what == 0 ? moment : ayesAhead(moment);
     }
 
     public int spare(int i) {
@@ -392,18 +377,7 @@ public final class DodgemDebate {
 
     public int count(int what) {
         settle();
-        switch (what) {
-            case 0: return cars.size;
-            case 1: return steers.size;
-            case 2: return carText.length;
-            case 3: return steerText.length;
-            case 4: return events.size;
-            case 5: return run.strikeCount;
-            case 6: return run.allPoints();
-            case 7: return sightings.size;
-            case 8: return sheets.latest;
-            default: return BAD;
-        }
+        return tally(what);
     }
 
     public long digest() {
@@ -418,15 +392,31 @@ public final class DodgemDebate {
         return hash.value;
     }
 
+    private int tally(int what) {
+        switch (what) {
+            case 0: return cars.size;
+            case 1: return steers.size;
+            case 2: return carText.length;
+            case 3: return steerText.length;
+            case 4: return events.size;
+            case 5: return run.strikeCount;
+            case 6: return run.allPoints();
+            case 7: return sightings.size;
+            case 8: return sheets.latest;
+            default: return BAD;
+        }
+    }
+
+    // What goes into the digest is settled by then, so that none of it asks a public call, which would look again.
     private void addTold() {
         for (int what = 0; what <= 7; what++) {
-            hash.add(count(what));
+            hash.add(tally(what));
         }
         hash.add(cars.flaw);
         hash.add(steers.flaw);
         for (int i = 0; i < MOST_STEERS; i++) {
             for (int what = 0; what < Steers.PARTS; what++) {
-                hash.add(steer(i, what));
+                hash.add(steers.partOf(i, what));
             }
         }
     }
@@ -459,7 +449,7 @@ public final class DodgemDebate {
     private void addHouse() {
         for (int moment = 0; moment < MOMENTS; moment++) {
             for (int what = 0; what < 3; what++) {
-                hash.add(house(moment, what));
+                hash.add(run.division(moment, what));
             }
         }
     }
@@ -469,11 +459,13 @@ public final class DodgemDebate {
         hash.add(run.firstCar);
         hash.add(run.leader());
         hash.add(run.untouched());
-        hash.add(jam(0));
-        hash.add(jam(1));
-        hash.add(carried());
-        hash.add(ring(0));
-        hash.add(ring(1));
+        int jammed = run.worstJam();
+        hash.add(jammed);
+        hash.add(run.stuck[jammed]);
+        hash.add(run.divisionsCarried());
+        int bell = bestBell();
+        hash.add(bell);
+        hash.add(ayesAhead(bell));
         int spared = trials.fewestSpared();
         hash.add(sparePart(spared, NONE));
         hash.add(sparePart(spared, 0));
@@ -511,6 +503,16 @@ public final class DodgemDebate {
     // at one bell more is whoever is one ahead of that moment.
     private int ayesAhead(int moment) {
         return moment == 0 ? cars.ayesAsTold() : run.ayes(moment - 1);
+    }
+
+    private int bestBell() {
+        int best = 0;
+        for (int moment = 1; moment < MOMENTS; moment++) {
+            if (ayesAhead(moment) > ayesAhead(best)) {
+                best = moment;
+            }
+        }
+        return best;
     }
 
     private static int standPart(int found, int what) {
@@ -620,14 +622,10 @@ public final class DodgemDebate {
             switch (part) {
                 case SORT: return "bmh".indexOf(sign);
                 case X: return "012345".indexOf(sign);
-                case Y: return freeY(row, "012345".indexOf(sign));
+                case Y: return isTaken(rows[row][X], sign - '0', row, row) ? NONE : "012345".indexOf(sign);
                 case WAY: return "enws".indexOf(sign);
                 default: return sign == '0' ? NONE : "0123456789".indexOf(sign);
             }
-        }
-
-        private int freeY(int row, int y) {
-            return isTaken(rows[row][X], y, row, row) ? NONE : y;
         }
 
         /** Whether a cell is told of one of the cars below a limit, but for one. */
@@ -673,6 +671,10 @@ public final class DodgemDebate {
                 case CAR: return "01234567".indexOf(sign);
                 default: return sign == 'l' ? LEFT : sign == 'r' ? RIGHT : NONE;
             }
+        }
+
+        int partOf(int i, int part) {
+            return i < size ? rows[i][part] : NONE;
         }
 
         void lend(int moment, int car, int turn) {
@@ -894,6 +896,24 @@ public final class DodgemDebate {
                 }
             }
             return ayes;
+        }
+
+        /** The ayes (0), the noes (1), whether it is rung (2). */
+        int division(int moment, int what) {
+            if (what == 2) {
+                return rung[moment];
+            }
+            return what == 0 ? ayes(moment) : size - ayes(moment);
+        }
+
+        int divisionsCarried() {
+            int carried = 0;
+            for (int moment = 0; moment < MOMENTS; moment++) {
+                if (rung[moment] == 1 && 2 * ayes(moment) > size) {
+                    carried++;
+                }
+            }
+            return carried;
         }
 
         int leader() {
