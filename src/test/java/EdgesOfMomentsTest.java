@@ -481,6 +481,11 @@ public final class EdgesOfMomentsTest {
         for (int what : new int[] {-1, 2, Due.LEAST, Due.MOST}) {
             DUE.is("15: first(" + what + ")", last.first(what), Due.BAD);
         }
+        last.event(0, 23, 0);
+        DUE.is("15: not even then", last.first(0), Due.NONE);
+        DUE.is("15: by nobody", last.first(1), Due.NONE);
+        last.back();
+        DUE.is("15: again", last.first(0), 23);
     }
 
     private static void theBest() {
@@ -520,10 +525,14 @@ public final class EdgesOfMomentsTest {
         DodgemDebate pushed = Due.still(Due.debate(ONLY_AT_LAST, TURN_AT_LAST), 1);
         DUE.is("18: a strike that pushes is none", pushed.jam(0), 0);
         DUE.is("18: a strike that pushes is none", pushed.jam(1), 0);
+        DUE.is("18: in the second moment", Due.still(Due.debate("b00e1;b20w9", ""), 1).jam(0), 1);
         DodgemDebate alike = Due.still(Due.debate("b00e1;b30w9", ""), 1);
         DUE.is("18: of like ones the least", alike.jam(0), 2);
         alike.event(0, 2, 0);
         DUE.is("18: none while it is rung", alike.jam(0), 3);
+        alike.event(1, 0, 0);
+        DUE.is("18: none without current", alike.jam(0), 0);
+        DUE.is("18: none without current", alike.jam(1), 0);
         for (int what : new int[] {-1, 2, Due.LEAST, Due.MOST}) {
             DUE.is("18: jam(" + what + ")", last.jam(what), Due.BAD);
         }

@@ -141,8 +141,9 @@ public final class EdgesOfPlansTest {
     private static void betterForItsOwnPoints() {
         DodgemDebate d = Due.still(Due.debate("b22e1;b32w9;b04e1;b14w9", ""), 1, 3);
         isBetter("what another has does not count", d, 0, 0, 0, 72);
-        DodgemDebate struck = Due.debate("b50e1;b55e1", "");
-        isBetter("without points", struck, 1, 0, 0, 0);
+        isBetter("without points", Due.debate("b50e1;b55e1", ""), 1, 0, 0, 0);
+        isBetter("of the second car", Due.still(Due.debate("b23s9;b22e1", ""), 0), 1, 0, 1, 72);
+        isBetter("of the second car", Due.still(Due.debate("b21n9;b22e1", "x7l"), 0), 1, 0, 2, 72);
     }
 
     // ---- RING
@@ -382,6 +383,10 @@ public final class EdgesOfPlansTest {
         DUE.is("28: no weight is left", three.ask(0), 0);
         DodgemDebate last = Due.still(Due.debate("b00e5;b01s5", "x0r"), 1);
         DUE.is("28: in the last moment", last.ask(0), 23);
+        DUE.is("28: 9 alone pushes", Due.still(Due.debate("b00e5;b20n9", ""), 1).ask(0), 1);
+        DUE.is("28: 1 alone does not", Due.still(Due.debate("b00e5;b20n2", ""), 1).ask(0), 1);
+        // Behind moment 9: 1 to 5 at 3,2; 6 and 7 at 4,2; 8 and 9 at 4,1, which has the sum of 3,2.
+        DUE.is("28: by x and y, not by their sum", Due.debate("b51w5;b40n6;b25n7", "").ask(0), 9);
     }
 
     // ---- CHANCE
@@ -448,8 +453,13 @@ public final class EdgesOfPlansTest {
         isChance("fifteen sixteenths, eight times", d, 1, 1, 2562890625L, 1L << 32);
         isChance("a half, eight times", d, 8, 1, 1, 256);
         isChance("three quarters, eight times", d, 4, 1, 6561, 65536);
+        isChance("none of eight", d, 0, 1, 1, 1);
+        isChance("all of eight", d, 16, 1, 0, 1);
         d.back();
         isChance("seven are left", d, 15, 1, 1, 1L << 28);
+        DodgemDebate sure = Due.still(Due.debate(FACING, ""), 1, 1, 1, 1, 1, 1, 1, 1);
+        isChance("in any case, by all of eight", sure, 16, 1, 1, 1);
+        isChance("in any case, by some of eight", sure, 5, 1, 1, 1);
     }
 
     private static void eachByItself() {
@@ -468,6 +478,7 @@ public final class EdgesOfPlansTest {
         agesWithoutCars();
         agesInPlaceOfThoseTold();
         agesAsIfTold();
+        agesOneAfterTheOther();
     }
 
     private static void numbersOfAges() {
@@ -506,6 +517,16 @@ public final class EdgesOfPlansTest {
                     isAsIfTold(cars, seed, n);
                 }
             }
+        }
+    }
+
+    private static void agesOneAfterTheOther() {
+        DodgemDebate d = Due.debate("b00e5;b30w3;m53n9;h33e1", "");
+        for (int seed = 0; seed < 40; seed++) {
+            int n = 8 - seed % 9;
+            DodgemDebate fresh = Due.debate("b00e5;b30w3;m53n9;h33e1", "");
+            DUE.is("30: strikes are by the seed alone", d.ages(seed, n, 0), fresh.ages(seed, n, 0));
+            DUE.is("30: points are by the seed alone", d.ages(seed, n, 1), fresh.ages(seed, n, 1));
         }
     }
 
