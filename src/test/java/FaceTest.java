@@ -34,7 +34,12 @@ public final class FaceTest {
     public static void main(String[] args) throws IOException {
         checkMembers();
         checkNested();
+        checkFields(DodgemDebate.class);
+        for (Class<?> nested : DodgemDebate.class.getDeclaredClasses()) {
+            checkFields(nested);
+        }
         checkSource();
+        checkLengths();
         System.out.println(wrong == 0 ? "face: as it must be" : "face: " + wrong + " wrong");
         if (wrong != 0) {
             System.exit(1);
@@ -90,6 +95,41 @@ public final class FaceTest {
         for (Method m : DodgemDebate.class.getDeclaredMethods()) {
             check(!Modifier.isPrivate(m.getModifiers()) || !names.contains(m.getName()), "a private " + m);
         }
+    }
+
+    private static final Set<Class<?>> CONSTANTS = Set.of(int.class, long.class, boolean.class, char.class,
+            String.class, int[].class, long[].class, char[].class, byte[].class);
+
+    private static void checkFields(Class<?> c) {
+        int own = 0;
+        for (Field f : c.getDeclaredFields()) {
+            if (!Modifier.isStatic(f.getModifiers())) {
+                own++;
+            } else {
+                check(Modifier.isFinal(f.getModifiers()) && CONSTANTS.contains(f.getType()), "not a constant: " + f);
+            }
+        }
+        check(own <= 20, c + " has " + own + " fields");
+    }
+
+    /** A method begins on a line that ends in "{" at the depth of its class, and ends on one "}" as far in. */
+    private static void checkLengths() throws IOException {
+        String[] lines = Files.readString(Path.of("src/main/java/DodgemDebate.java")).split("\n");
+        Pattern head = Pattern.compile("( {4}| {8})[\\w\\[\\]. ]+\\(.*\\) \\{");
+        int methods = 0;
+        for (int i = 0; i < lines.length; i++) {
+            if (!head.matcher(lines[i]).matches() || lines[i].matches("\\s+(if|for|while|switch|do) .*")) {
+                continue;
+            }
+            String end = lines[i].substring(0, lines[i].length() - lines[i].stripLeading().length()) + "}";
+            int last = i;
+            while (last < lines.length && !lines[last].equals(end)) {
+                last++;
+            }
+            methods++;
+            check(last - i < 60, "a long method: " + lines[i]);
+        }
+        check(methods > 60, "no more methods than " + methods);
     }
 
     private static void checkSource() throws IOException {

@@ -1,27 +1,15 @@
 /** One method for each promise of the document: ordinary calls, edges and wrong numbers, worked out by hand. */
 public final class PromisesTest {
-    private static final int NULL = -11, INDEX = -12, CAST = -13, STORE = -14, SIZE = -15;
-    private static final int LEAST = Integer.MIN_VALUE;
-    private static int wrong = 0;
+    private static final int NULL = Due.NULL, INDEX = Due.INDEX, CAST = Due.CAST, STORE = Due.STORE, SIZE = Due.SIZE;
+    private static final int LEAST = Due.LEAST;
+    private static final Due DUE = new Due("promises");
 
     private static void due(String what, long got, long want) {
-        if (got != want) {
-            wrong++;
-            System.out.println(what + " answered " + got + ", due is " + want);
-        }
+        DUE.is(what, got, want);
     }
 
     private static DodgemDebate debate(String cars, String steers) {
-        DodgemDebate d = new DodgemDebate();
-        typeAll(d, 0, cars);
-        typeAll(d, 1, steers);
-        return d;
-    }
-
-    private static void typeAll(DodgemDebate d, int text, String s) {
-        for (char c : s.toCharArray()) {
-            d.type(text, c);
-        }
+        return Due.debate(cars, steers);
     }
 
     /** Head on, of like weight: car 1 strikes at once, from moment 1 on both do, to and fro. */
@@ -30,14 +18,12 @@ public final class PromisesTest {
     }
 
     private static void isAt(String name, DodgemDebate d, int moment, int car, int... parts) {
-        for (int what = 0; what < parts.length; what++) {
-            due(name + ": at(" + moment + ", " + car + ", " + what + ")", d.at(moment, car, what), parts[what]);
-        }
+        DUE.isAt(name, d, moment, car, parts);
     }
 
     private static void faultIs(int text, String s, int place) {
         DodgemDebate d = new DodgemDebate();
-        typeAll(d, text, s);
+        Due.typeAll(d, text, s);
         due("5: fault of " + s, d.fault(text), place);
         due("5: rows of " + s, d.count(text), place != -1 || s.isEmpty() ? 0 : (s.length() + 1) / (text == 0 ? 6 : 4));
     }
@@ -50,10 +36,7 @@ public final class PromisesTest {
         puzzles();
         chances();
         sheets();
-        System.out.println(wrong == 0 ? "promises: all answers are as due" : "promises: " + wrong + " wrong");
-        if (wrong != 0) {
-            System.exit(1);
-        }
+        DUE.end();
     }
 
     private static void texts() {
