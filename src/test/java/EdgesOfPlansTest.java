@@ -67,6 +67,8 @@ public final class EdgesOfPlansTest {
     private static void standOfTheLastCell() {
         isStand("5,5", Due.still(Due.debate("b00w1;b45e9", ""), 1), 0, 5, 5, 72);
         isStand("5,0", Due.still(Due.debate("b00w1;b40e9", ""), 1), 0, 5, 0, 72);
+        // Head on it could come from 6,0 alone; so it turns round in moment 0 and strikes from moment 5 on, for 1.
+        isStand("none beyond the floor", Due.still(Due.debate("b33w1;b50e9", ""), 1), 0, 0, 0, 19);
     }
 
     private static void standChangesNothing() {
